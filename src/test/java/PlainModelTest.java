@@ -7,7 +7,7 @@ import java.util.TreeMap;
 
 /** Long runs of calls, right and wrong ones, whose every answer is compared with the plain model's. */
 public final class PlainModelTest {
-    private static final int RUNS = 400;
+    private static final int RUNS = 200;
 
     /** Under 512 by as many calls as one step may make. */
     private static final int CALLS = 500;
