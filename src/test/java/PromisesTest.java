@@ -81,7 +81,7 @@ public final class PromisesTest {
     }
 
     private void promise4Clear() {
-        BracketSweep x = trefoil();
+        BracketSweep x = Diagrams.trefoil();
         x.circles(5);
         check.due("4: clear()", x.clear(), 3);
         check.due("4: no crossings", x.look(-1, 0), 0);
@@ -131,8 +131,8 @@ public final class PromisesTest {
         }
         x.crossing(1, 3, 4, 5, 6);
         check.due("6: no code", x.sweep(0), -1);
-        check.due("6: trefoil", trefoil().sweep(2), 4);
-        BracketSweep tie = tieOfTwo();
+        check.due("6: trefoil", Diagrams.trefoil().sweep(2), 4);
+        BracketSweep tie = Diagrams.tieOfTwo();
         check.due("6: of two the first", tie.sweep(2), 4);
         tie.move(0, 1);
         check.due("6: of two the first, the other being first", tie.sweep(2), 2);
@@ -144,12 +144,12 @@ public final class PromisesTest {
         most.crossing(1, 5, 6, 7, 8);
         // 0 opens 4; 2 has three places on it, 1 only one; then 1 and 8 are open, then four of 1's.
         check.due("6: the one with most places", most.sweep(0), 4);
-        BracketSweep apart = kinks(10, true, 1);
+        BracketSweep apart = Diagrams.kinks(10, true, 1);
         check.due("6: parts that hang together by nothing", apart.sweep(9), 0);
     }
 
     private void promise6SweepLeavesAllAsItWas() {
-        BracketSweep x = tieOfTwo();
+        BracketSweep x = Diagrams.tieOfTwo();
         x.circles(2);
         long[] before = brackets(x);
         for (int k = 3; k >= 0; k--) {
@@ -159,7 +159,7 @@ public final class PromisesTest {
         dueCrossing("6: 0 as given", x, 0, 1, 1, 3, 4, 5);
         dueCrossing("6: 3 as given", x, 3, 1, 4, 5, 8, 8);
         check.due("6: circles as they were", x.look(-1, 1), 2);
-        BracketSweep unswept = tieOfTwo();
+        BracketSweep unswept = Diagrams.tieOfTwo();
         unswept.circles(2);
         unswept.resolve(0, true);
         x.sweep(3);
@@ -168,27 +168,27 @@ public final class PromisesTest {
     }
 
     private void promise7Bracket() {
-        duePolynomial("7: nothing", circlesAlone(0), 0, 1);
-        duePolynomial("7: one circle", circlesAlone(1), 0, 1);
-        duePolynomial("7: two circles", circlesAlone(2), -2, -1, 2, -1);
-        duePolynomial("7: three circles", circlesAlone(3), -4, 1, 0, 2, 4, 1);
-        duePolynomial("7: a kink", kinks(1, true, 1), 3, -1);
-        duePolynomial("7: the other kink", kinks(1, false, 1), -3, -1);
-        duePolynomial("7: trefoil", trefoil(), -7, 1, -3, -1, 5, -1);
-        duePolynomial("7: figure eight", figureEight(), -8, 1, -4, -1, 0, 1, 4, -1, 8, 1);
+        duePolynomial("7: nothing", Diagrams.circlesAlone(0), 0, 1);
+        duePolynomial("7: one circle", Diagrams.circlesAlone(1), 0, 1);
+        duePolynomial("7: two circles", Diagrams.circlesAlone(2), -2, -1, 2, -1);
+        duePolynomial("7: three circles", Diagrams.circlesAlone(3), -4, 1, 0, 2, 4, 1);
+        duePolynomial("7: a kink", Diagrams.kinks(1, true, 1), 3, -1);
+        duePolynomial("7: the other kink", Diagrams.kinks(1, false, 1), -3, -1);
+        duePolynomial("7: trefoil", Diagrams.trefoil(), -7, 1, -3, -1, 5, -1);
+        duePolynomial("7: figure eight", Diagrams.figureEight(), -8, 1, -4, -1, 0, 1, 4, -1, 8, 1);
         BracketSweep flat = new BracketSweep();
         flat.crossing(1, 1, 2, 1, 2);
         duePolynomial("7: a code of no plane diagram", flat, -1, 1, 1, 1);
         flat.crossing(1, 3, 4, 5, 6);
         duePolynomial("7: no code", flat);
         for (int e : new int[] {LEAST, LEAST + 66, -67, 67, GREATEST - 66, GREATEST}) {
-            check.due("7: bracket(" + e + ")", trefoil().bracket(e), 0);
+            check.due("7: bracket(" + e + ")", Diagrams.trefoil().bracket(e), 0);
         }
     }
 
     private void promise7BracketOfTorusLinks() {
         for (int n = 1; n <= 10; n++) {
-            BracketSweep x = torus(n);
+            BracketSweep x = Diagrams.torus(n);
             for (int e = -70; e <= 70; e++) {
                 long want = e == n + 2 ? -1 : 0;
                 for (int j = 1; j < n; j++) {
@@ -202,7 +202,7 @@ public final class PromisesTest {
     /** Ten kinks that are ten parts, and nine circles: d^18 A^30, or A^-30. */
     private void promise7BracketAtTheLimits() {
         for (int side = -1; side <= 1; side += 2) {
-            BracketSweep x = kinks(10, side == 1, 1);
+            BracketSweep x = Diagrams.kinks(10, side == 1, 1);
             x.circles(9);
             long binomial = 1;
             for (int j = 0; j <= 18; j++) {
@@ -218,7 +218,7 @@ public final class PromisesTest {
     }
 
     private void promise7BracketAfterEachChange() {
-        BracketSweep x = trefoil();
+        BracketSweep x = Diagrams.trefoil();
         check.due("7: trefoil", x.bracket(5), -1);
         x.circles(1);
         check.due("7: after circles", x.bracket(7), 1);
@@ -240,10 +240,10 @@ public final class PromisesTest {
 
     private void promise8Jones() {
         dueJones("8: nothing", new BracketSweep(), 0, 1);
-        dueJones("8: trefoil", trefoil(), -16, -1, -12, 1, -4, 1);
-        dueJones("8: figure eight", figureEight(), -8, 1, -4, -1, 0, 1, 4, -1, 8, 1);
-        dueJones("8: Hopf's link", torus(2), -10, -1, -2, -1);
-        BracketSweep left = trefoil();
+        dueJones("8: trefoil", Diagrams.trefoil(), -16, -1, -12, 1, -4, 1);
+        dueJones("8: figure eight", Diagrams.figureEight(), -8, 1, -4, -1, 0, 1, 4, -1, 8, 1);
+        dueJones("8: Hopf's link", Diagrams.torus(2), -10, -1, -2, -1);
+        BracketSweep left = Diagrams.trefoil();
         left.change(0);
         left.change(1);
         left.change(2);
@@ -252,33 +252,34 @@ public final class PromisesTest {
         x.crossing(1, 1, 2, 3, 4);
         dueJones("8: no code", x);
         for (int e : new int[] {LEAST, LEAST + 29, -97, 97, GREATEST - 29, GREATEST}) {
-            check.due("8: jones(" + e + ")", trefoil().jones(e), 0);
+            check.due("8: jones(" + e + ")", Diagrams.trefoil().jones(e), 0);
             check.due("8: other jones(" + e + ")", left.jones(e), 0);
         }
-        BracketSweep far = kinks(10, true, -1);
+        BracketSweep far = Diagrams.kinks(10, true, -1);
         far.circles(9);
         check.due("8: limits, jones(96)", far.jones(96), 1);
         check.due("8: limits, jones(92)", far.jones(92), 18);
-        far = kinks(10, false, 1);
+        far = Diagrams.kinks(10, false, 1);
         far.circles(9);
         check.due("8: limits, jones(-96)", far.jones(-96), 1);
-        BracketSweep odd = kinks(1, true, -1);
+        BracketSweep odd = Diagrams.kinks(1, true, -1);
         check.due("8: an odd sum of signs below 0", odd.jones(6), 1);
     }
 
     /** A kink in a strand of the trefoil; two circles that cross twice and come apart. */
     private void promise8JonesIsNotChangedByMoves() {
-        BracketSweep kinked = kinkedTrefoil(-1);
+        BracketSweep kinked = Diagrams.kinkedTrefoil(-1);
         check.due("8: kinked, a code", kinked.fault(), 0);
         dueJones("8: kinked", kinked, -16, -1, -12, 1, -4, 1);
-        dueJones("8: kinked, with the wrong sign", kinkedTrefoil(1), -22, -1, -18, 1, -10, 1);
-        BracketSweep apart = torus(2);
+        dueJones("8: kinked, with the wrong sign", Diagrams.kinkedTrefoil(1),
+            -22, -1, -18, 1, -10, 1);
+        BracketSweep apart = Diagrams.torus(2);
         apart.change(1);
         dueJones("8: two circles, one upon the other", apart, -2, -1, 2, -1);
     }
 
     private void promise9Span() {
-        BracketSweep x = trefoil();
+        BracketSweep x = Diagrams.trefoil();
         check.due("9: bracket, least", x.span(false, false), -7);
         check.due("9: bracket, greatest", x.span(false, true), 5);
         check.due("9: jones, least", x.span(true, false), -16);
@@ -294,10 +295,10 @@ public final class PromisesTest {
         nothing.circles(9);
         check.due("9: nine circles, least", nothing.span(false, false), -16);
         check.due("9: nine circles, greatest", nothing.span(true, true), 16);
-        BracketSweep far = kinks(10, true, -1);
+        BracketSweep far = Diagrams.kinks(10, true, -1);
         far.circles(9);
         check.due("9: limits, greatest", far.span(true, true), 96);
-        far = kinks(10, false, 1);
+        far = Diagrams.kinks(10, false, 1);
         far.circles(9);
         check.due("9: limits, least", far.span(true, false), -96);
     }
@@ -308,7 +309,7 @@ public final class PromisesTest {
         check.due("10: nothing, mask 1", x.state(1), -1);
         x.circles(9);
         check.due("10: circles alone", x.state(0), 9);
-        BracketSweep t = trefoil();
+        BracketSweep t = Diagrams.trefoil();
         int[] due = {2, 1, 1, 2, 1, 2, 2, 3};
         for (int mask = 0; mask < 8; mask++) {
             check.due("10: trefoil, state(" + mask + ")", t.state(mask), due[mask]);
@@ -320,7 +321,7 @@ public final class PromisesTest {
         }
         t.crossing(1, 7, 8, 9, 9);
         check.due("10: no code", t.state(0), -1);
-        BracketSweep ten = kinks(10, true, 1);
+        BracketSweep ten = Diagrams.kinks(10, true, 1);
         check.due("10: ten by A", ten.state(0), 20);
         check.due("10: ten by B", ten.state(1023), 10);
         check.due("10: bit 9 is crossing 9", ten.state(512), 19);
@@ -356,7 +357,7 @@ public final class PromisesTest {
     }
 
     private void promise12Resolve() {
-        BracketSweep x = trefoil();
+        BracketSweep x = Diagrams.trefoil();
         for (int k : new int[] {LEAST, -1, 3, 10, GREATEST}) {
             check.due("12: resolve(" + k + ", ..)", x.resolve(k, true), false);
         }
@@ -371,14 +372,14 @@ public final class PromisesTest {
         x.crossing(1, 7, 8, 9, 9);
         check.due("12: no code", x.resolve(0, true), false);
         check.due("12: no code, so as before", x.look(-1, 0), 3);
-        x = kinks(1, true, 1);
+        x = Diagrams.kinks(1, true, 1);
         check.due("12: by A", x.resolve(0, true), true);
         check.due("12: two circles", x.look(-1, 1), 2);
-        x = kinks(1, true, 1);
+        x = Diagrams.kinks(1, true, 1);
         check.due("12: by B", x.resolve(0, false), true);
         check.due("12: one circle", x.look(-1, 1), 1);
         check.due("12: nothing is left", x.resolve(0, false), false);
-        x = kinks(4, true, 1);
+        x = Diagrams.kinks(4, true, 1);
         x.change(2);
         check.due("12: resolve(1, false) of four", x.resolve(1, false), true);
         dueCrossing("12: the one before stays", x, 0, 1, 1, 1, 2, 2);
@@ -417,7 +418,7 @@ public final class PromisesTest {
     }
 
     private void promise12ResolveAtNineCircles() {
-        BracketSweep x = kinks(2, true, 1);
+        BracketSweep x = Diagrams.kinks(2, true, 1);
         x.circles(8);
         check.due("12: ten circles", x.resolve(1, true), false);
         check.due("12: as before", x.look(-1, 1), 8);
@@ -427,10 +428,10 @@ public final class PromisesTest {
         check.due("12: ten, by B", x.resolve(0, false), false);
         check.due("12: eleven, by A", x.resolve(0, true), false);
         dueCrossing("12: crossing 0 as before", x, 0, 1, 1, 1, 2, 2);
-        x = trefoil();
+        x = Diagrams.trefoil();
         x.circles(9);
         check.due("12: no circle more", x.resolve(2, true), true);
-        x = kinks(1, true, 1);
+        x = Diagrams.kinks(1, true, 1);
         x.circles(7);
         check.due("12: just nine", x.resolve(0, true), true);
         check.due("12: nine there", x.look(-1, 1), 9);
@@ -439,9 +440,9 @@ public final class PromisesTest {
     /** The bracket is A times the one resolved by A, and A^-1 times the one resolved by B. */
     private void promise12ResolvedBracketsMakeTheBracket() {
         for (int k = 0; k < 4; k++) {
-            BracketSweep whole = figureEight();
-            BracketSweep a = figureEight();
-            BracketSweep b = figureEight();
+            BracketSweep whole = Diagrams.figureEight();
+            BracketSweep a = Diagrams.figureEight();
+            BracketSweep b = Diagrams.figureEight();
             a.resolve(k, true);
             b.resolve(k, false);
             for (int e = -20; e <= 20; e++) {
@@ -466,7 +467,7 @@ public final class PromisesTest {
             check.due("13: change(" + k + ")", x.change(k), false);
         }
         dueCrossing("13: refused, so as before", x, 0, -1, 12, 13, 14, 11);
-        BracketSweep knot = trefoil();
+        BracketSweep knot = Diagrams.trefoil();
         knot.change(1);
         dueJones("13: the trefoil is undone", knot, 0, 1);
     }
@@ -491,7 +492,7 @@ public final class PromisesTest {
             check.due("14: move(0, " + k + ")", x.move(0, k), false);
         }
         dueOrder("14: refused, so as before", x, 0, 2, 3, 1, 4);
-        BracketSweep knot = trefoil();
+        BracketSweep knot = Diagrams.trefoil();
         knot.circles(1);
         knot.crossing(1, 7, 7, 8, 8);
         long[] before = brackets(knot);
@@ -551,73 +552,5 @@ public final class PromisesTest {
         for (int i = 0; i < row.length; i++) {
             check.due(call + ", bracket(" + (i - 30) + ")", x.bracket(i - 30), row[i]);
         }
-    }
-
-    private static BracketSweep circlesAlone(int n) {
-        BracketSweep x = new BracketSweep();
-        x.circles(n);
-        return x;
-    }
-
-    private static BracketSweep trefoil() {
-        BracketSweep x = new BracketSweep();
-        x.crossing(1, 1, 5, 2, 4);
-        x.crossing(1, 3, 1, 4, 6);
-        x.crossing(1, 5, 3, 6, 2);
-        return x;
-    }
-
-    /** Smoothed by B the kink is a circle beside the strand: it is a factor - A^-3. */
-    private static BracketSweep kinkedTrefoil(int sign) {
-        BracketSweep x = new BracketSweep();
-        x.crossing(1, 7, 5, 2, 4);
-        x.crossing(1, 3, 1, 4, 6);
-        x.crossing(1, 5, 3, 6, 2);
-        x.crossing(sign, 1, 8, 8, 7);
-        return x;
-    }
-
-    private static BracketSweep figureEight() {
-        BracketSweep x = new BracketSweep();
-        x.crossing(1, 4, 2, 5, 1);
-        x.crossing(1, 8, 6, 1, 5);
-        x.crossing(-1, 6, 3, 7, 4);
-        x.crossing(-1, 2, 7, 3, 8);
-        return x;
-    }
-
-    /** Two strands that cross n times upwards and are closed: smoothed by A they go straight on. */
-    private static BracketSweep torus(int n) {
-        BracketSweep x = new BracketSweep();
-        for (int i = 0; i < n; i++) {
-            int next = (i + 1) % n;
-            x.crossing(1, 2 * i + 2, 2 * next + 2, 2 * next + 1, 2 * i + 1);
-        }
-        return x;
-    }
-
-    /** So many parts of one crossing each; two circles by A, one by B, or the other way round. */
-    private static BracketSweep kinks(int n, boolean twoByA, int sign) {
-        BracketSweep x = new BracketSweep();
-        for (int i = 0; i < n; i++) {
-            int p = 2 * i + 1;
-            int q = 2 * i + 2;
-            if (twoByA) {
-                x.crossing(sign, p, p, q, q);
-            } else {
-                x.crossing(sign, p, q, q, p);
-            }
-        }
-        return x;
-    }
-
-    /** Crossing 2 has one place on 0 and one on 1; 0 opens more labels than 1. */
-    private static BracketSweep tieOfTwo() {
-        BracketSweep x = new BracketSweep();
-        x.crossing(1, 1, 3, 4, 5);
-        x.crossing(1, 2, 6, 6, 3);
-        x.crossing(1, 1, 2, 9, 9);
-        x.crossing(1, 4, 5, 8, 8);
-        return x;
     }
 }
