@@ -15,6 +15,14 @@ final class Check {
         due(call, got ? 1L : 0L, want ? 1L : 0L);
     }
 
+    void due(String call, String got, String want) {
+        asked++;
+        if (!got.equals(want)) {
+            wrong++;
+            System.out.println(call + " answered " + got + ", due is " + want);
+        }
+    }
+
     /** Ends the program, with exit code 1 if an answer was wrong or none was asked for. */
     void end() {
         System.out.println(wrong + " of " + asked + " answers are not as due");
